@@ -377,21 +377,14 @@ public final class CulpritFinder {
             set = NONE;
         }
 
-        boolean isOpen() {
-            return set != NONE;
-        }
-
-        void open(int changes) {
-            set = changes;
-            pieces = 2;
-        }
-
-        void record(int lines, int verdict) {
+        void keepVerdict(int lines, int verdict) {
             verdicts[lines] = verdict;
         }
 
-        /** Goes on as far as the known verdicts lead; the set whose verdict is missing, or NONE at the end. */
-        int advance() {
+        /** Goes from all changes as far as the verdicts lead; the set that is to be tested, or NONE at the end. */
+        int follow(int changes) {
+            set = changes;
+            pieces = 2;
             for (int round = 0; round < MAX_ROUNDS; round++) {
                 int size = Integer.bitCount(set);
                 if (size <= 1) {
@@ -485,7 +478,6 @@ public final class CulpritFinder {
             reduction.reset();
             journalLength = 0;
             stage = NO_SEARCH;
-            lastFailed = NONE;
             cleared = 0;
             suspects = 0;
             culprit = NONE;
@@ -510,7 +502,7 @@ public final class CulpritFinder {
             int verdict = judgeUpcoming();
             journal[journalLength] = ENTRY_FACTOR * upcoming + verdict;
             journalLength++;
-            record(upcoming, verdict);
+            keepVerdict(upcoming, verdict);
             plan();
             return verdict;
         }
@@ -537,16 +529,12 @@ public final class CulpritFinder {
             return machine.judge(input);
         }
 
-        private void record(int test, int verdict) {
+        private void keepVerdict(int test, int verdict) {
             if (test >= FIRST_SET_TEST) {
-                reduction.record(test - FIRST_SET_TEST, verdict);
+                reduction.keepVerdict(test - FIRST_SET_TEST, verdict);
                 return;
             }
             verdicts[test] = verdict;
-            // The test of the culprit's parent must not move the bad commit any more.
-            if (culprit != NONE) {
-                return;
-            }
             if (verdict == FAILS) {
                 lastFailed = test;
             } else if (verdict == PASSES) {
@@ -599,7 +587,8 @@ public final class CulpritFinder {
             int best = NONE;
             int bestLesser = NONE;
             for (int c = 0; c < MAX_COMMITS; c++) {
-                if (isSuspect(c) && c != lastFailed && verdicts[c] == UNTESTED) {
+                // The bad one was tested itself, so it is never taken here.
+                if (isSuspect(c) && verdicts[c] == UNTESTED) {
                     int weight = weightOf(c);
                     int lesser = Math.min(weight, count - weight);
                     if (lesser > bestLesser) {
@@ -619,10 +608,7 @@ public final class CulpritFinder {
             }
             int lines = NONE;
             if (parent != NONE && verdicts[parent] == PASSES) {
-                if (!reduction.isOpen()) {
-                    reduction.open(history.changedLines(parent, culprit));
-                }
-                lines = reduction.advance();
+                lines = reduction.follow(history.changedLines(parent, culprit));
             }
             if (lines == NONE) {
                 stage = FOUND;

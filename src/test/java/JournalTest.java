@@ -54,7 +54,12 @@ public final class JournalTest {
         Dues.test(x, 3, 2);
         Dues.test(x, 1, 1);
         Dues.standing(x, 2, 12, -1, -1);
-        // Verdicts of an earlier search do not count: all is tested anew, with the new input.
+        // Verdicts of an earlier search do not count: what passed in it is suspected again.
+        x.begin(0, 4, 0);
+        Dues.test(x, 4, 2);
+        Dues.test(x, 0, 1);
+        Dues.standing(x, 2, 30, -1, -1);
+        // All is tested anew, with the new input.
         Dues.due("begin(0, 4, 1)", x.begin(0, 4, 1), true);
         Dues.test(x, 4, 1);
         Dues.standing(x, 6, 0, -1, -1);

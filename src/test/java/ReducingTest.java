@@ -6,6 +6,8 @@ public final class ReducingTest {
         pieceFails();
         restFails();
         unevenPieces();
+        sevenChanges();
+        setsOfAnEarlierSearch();
         unbuildableSetsDoNotFail();
         changesOfFarLines();
         Dues.finishTests();
@@ -112,6 +114,40 @@ public final class ReducingTest {
         testSet(x, 136, 3, 137);
         testSet(x, 129, 1, 137);
         reducedTo(x, 137);
+    }
+
+    private static void sevenChanges() {
+        // Lines 0 and 6 are needed. Pieces of 3 and 4 changes, then of 1, 2, 2 and 2.
+        CulpritFinder x = reducing(105, 190, 190, 190, 190, 190, 703);
+        testSet(x, 7, 1, 127);
+        testSet(x, 120, 1, 127);
+        testSet(x, 1, 1, 127);
+        testSet(x, 6, 1, 127);
+        testSet(x, 24, 1, 127);
+        testSet(x, 96, 1, 127);
+        testSet(x, 126, 1, 127);
+        testSet(x, 121, 2, 121);
+        // Now n is 3, with pieces of 1, 2 and 2 changes; these, and what the first leaves, were tested before.
+        testSet(x, 97, 2, 97);
+        // Now n is 2, of 3 changes: 1 and 2; then 3, the lesser of 4 and 3.
+        testSet(x, 32, 1, 97);
+        testSet(x, 64, 1, 97);
+        testSet(x, 65, 2, 65);
+        reducedTo(x, 65);
+    }
+
+    private static void setsOfAnEarlierSearch() {
+        CulpritFinder x = reducing(105, 703);
+        testSet(x, 1, 1, 3);
+        testSet(x, 2, 1, 3);
+        reducedTo(x, 3);
+        x.begin(0, 1, 4);
+        Dues.test(x, 1, 2);
+        Dues.test(x, 0, 1);
+        Dues.standing(x, 3, 2, 1, 3);
+        testSet(x, 1, 1, 3);
+        testSet(x, 2, 2, 2);
+        reducedTo(x, 2);
     }
 
     private static void unbuildableSetsDoNotFail() {

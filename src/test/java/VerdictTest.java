@@ -11,6 +11,7 @@ public final class VerdictTest {
         blocks();
         readBeforeSet();
         steps();
+        variablesBeginAnew();
         isNoTest();
         Dues.finishTests();
     }
@@ -128,6 +129,13 @@ public final class VerdictTest {
         // The same 80 steps, of which the last is a check.
         judge(PASSES, 25, 400, 300, 600, 500, 600, 0, 0, 700);
         judge(FAILS, 25, 400, 300, 600, 500, 600, 0, 0, 701);
+    }
+
+    private static void variablesBeginAnew() {
+        CulpritFinder x = new CulpritFinder();
+        Dues.commitOf(x, -1, -1, 500, 115, 600, 710);
+        Dues.due("verdict(0, 1)", x.verdict(0, 1), FAILS);
+        Dues.due("verdict(0, 0) behind it", x.verdict(0, 0), PASSES);
     }
 
     private static void isNoTest() {
