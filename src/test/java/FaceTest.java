@@ -5,8 +5,15 @@ import java.lang.reflect.Modifier;
 import java.util.Arrays;
 import java.util.TreeSet;
 
-/** The class has the document's public face, and no other member that can be seen from outside. */
+/**
+ * The class has the document's public face, and no other member that can be seen from outside; and rules 1, 5 and 11 of
+ * LANGUAGE.md hold as far as the compiled class shows them.
+ */
 public final class FaceTest {
+    private static final int MOST_CLASSES = 12;
+    private static final int MOST_FIELDS = 20;
+    private static final int MOST_PARAMETERS = 7;
+
     private static final String[] FACE = {
         "boolean begin(int, int, int)", "boolean crash()", "boolean end()", "boolean start()",
         "boolean write(int, int, int)", "int commit(int, int)", "int culprit()", "int entry(int)", "int finish()",
@@ -25,7 +32,41 @@ public final class FaceTest {
         for (Field field : face.getDeclaredFields()) {
             Dues.due("private field " + field.getName(), Modifier.isPrivate(field.getModifiers()), true);
         }
+        rules(face);
+        Class<?>[] inside = face.getDeclaredClasses();
+        Dues.due("few classes", inside.length < MOST_CLASSES, true);
+        for (Class<?> own : inside) {
+            int modifiers = own.getModifiers();
+            Dues.due(own + " is static", Modifier.isStatic(modifiers), true);
+            Dues.due(own + " is hidden", Modifier.isPublic(modifiers) || Modifier.isProtected(modifiers), false);
+            rules(own);
+        }
         Dues.finishTests();
+    }
+
+    /** Rules 1 (private names), 5 (static fields) and 11 (parameters and fields). */
+    private static void rules(Class<?> own) {
+        int fields = 0;
+        for (Field field : own.getDeclaredFields()) {
+            boolean isStatic = Modifier.isStatic(field.getModifiers());
+            fields += isStatic ? 0 : 1;
+            Dues.due(field + " is final if static", !isStatic || Modifier.isFinal(field.getModifiers()), true);
+        }
+        Dues.due(own + " has few fields", fields <= MOST_FIELDS, true);
+        for (Method method : own.getDeclaredMethods()) {
+            Dues.due(method + " has few parameters", method.getParameterCount() <= MOST_PARAMETERS, true);
+            boolean isPrivate = Modifier.isPrivate(method.getModifiers());
+            Dues.due(method + " has a face's name", isPrivate && isOnFace(method.getName()), false);
+        }
+    }
+
+    private static boolean isOnFace(String name) {
+        for (String signature : FACE) {
+            if (signature.contains(" " + name + "(")) {
+                return true;
+            }
+        }
+        return false;
     }
 
     private static void methods(Class<?> face) {
